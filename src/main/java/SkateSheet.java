@@ -302,10 +302,9 @@ public final class SkateSheet {
     }
 
     public int undo() throws IllegalStateException {
-        if (history.isEmpty()) {
+        if (!history.takeBack(state)) {
             throw new IllegalStateException("no state is remembered");
         }
-        history.takeBack(state);
         return history.count;
     }
 
@@ -570,7 +569,7 @@ public final class SkateSheet {
     }
 
     /** What belongs to one skater. A part stands in the rows of parts at 3 * its element + its number. */
-    private static final class Program {
+    static final class Program {
         final int[] types = new int[MAX_ELEMENTS];
         final int[] parts = new int[MAX_ELEMENTS];
         final int[] kernels = new int[MAX_ELEMENTS];
@@ -585,27 +584,34 @@ public final class SkateSheet {
         int elements;
         int points;
 
-        Program() {
-            elements = 0;
-            points = 0;
-        }
-
         void clear() {
-            clearElements();
-            Arrays.fill(components, 0);
+            elements = 0;
             points = 0;
+            Arrays.fill(components, 0);
         }
 
-        void clearElements() {
-            elements = 0;
-            Arrays.fill(types, 0);
-            Arrays.fill(parts, 0);
-            Arrays.fill(kernels, 0);
-            Arrays.fill(falls, 0);
-            Arrays.fill(reviews, 0);
-            Arrays.fill(kinds, 0);
-            Arrays.fill(turns, 0);
-            Arrays.fill(calls, 0);
+        /** Puts an element without parts behind the others, if there is room. */
+        void startElement(int type) {
+            if (elements < MAX_ELEMENTS) {
+                types[elements] = type;
+                parts[elements] = 0;
+                kernels[elements] = 0;
+                falls[elements] = 0;
+                reviews[elements] = 0;
+                elements++;
+            }
+        }
+
+        /** Puts a part behind the others of the last element, if there is room. */
+        void startPart(int kind, int turn, int call) {
+            int e = elements - 1;
+            if (e >= 0 && parts[e] < MAX_PARTS) {
+                int at = MAX_PARTS * e + parts[e];
+                kinds[at] = kind;
+                turns[at] = turn;
+                calls[at] = call;
+                parts[e]++;
+            }
         }
 
         void copyFrom(Program from) {
@@ -670,8 +676,8 @@ public final class SkateSheet {
         }
     }
 
-    /** All that actions change. The methods named put.. answer false, and change nothing, if they can't. */
-    private static final class State {
+    /** All that actions change. Where there is no such place, the methods named put.. change nothing. */
+    static final class State {
         final Program[] programs = new Program[MAX_SKATERS];
         final int[] settings = {100, 3, 7, 3, 10};
         int skaters;
@@ -680,15 +686,15 @@ public final class SkateSheet {
             for (int s = 0; s < MAX_SKATERS; s++) {
                 programs[s] = new Program();
             }
-            skaters = 0;
         }
 
+        /** Leaves the programs of skaters that there are not as they were: add() clears its own. */
         void copyFrom(State from) {
-            for (int s = 0; s < MAX_SKATERS; s++) {
+            skaters = from.skaters;
+            for (int s = 0; s < skaters; s++) {
                 programs[s].copyFrom(from.programs[s]);
             }
             System.arraycopy(from.settings, 0, settings, 0, SETTINGS);
-            skaters = from.skaters;
         }
 
         boolean hasSkater(int s) {
@@ -759,12 +765,10 @@ public final class SkateSheet {
             return true;
         }
 
-        boolean putKernel(int s, int e, int kernel) {
-            if (!hasElement(s, e)) {
-                return false;
+        void putKernel(int s, int e, int kernel) {
+            if (hasElement(s, e)) {
+                programs[s].kernels[e] = kernel;
             }
-            programs[s].kernels[e] = kernel;
-            return true;
         }
 
         boolean putCall(int s, int e, int k, int call) {
@@ -775,16 +779,14 @@ public final class SkateSheet {
             return true;
         }
 
-        boolean putComponent(int s, int k, int worth) {
-            if (!hasSkater(s) || k < 0 || k >= COMPONENTS) {
-                return false;
+        void putComponent(int s, int k, int worth) {
+            if (hasSkater(s) && k >= 0 && k < COMPONENTS) {
+                programs[s].components[k] = worth;
             }
-            programs[s].components[k] = worth;
-            return true;
         }
 
         boolean putPoints(int s, int points) {
-            if (!hasSkater(s) || points < 0 || points > MAX_POINTS) {
+            if (!hasSkater(s)) {
                 return false;
             }
             programs[s].points = points;
@@ -801,7 +803,7 @@ public final class SkateSheet {
     }
 
     /** The remembered states, in a ring: the oldest one gives its room to the newest one. */
-    private static final class History {
+    static final class History {
         private static final int ROOM = 14;
 
         final State[] ring = new State[ROOM];
@@ -812,12 +814,6 @@ public final class SkateSheet {
             for (int i = 0; i < ROOM; i++) {
                 ring[i] = new State();
             }
-            oldest = 0;
-            count = 0;
-        }
-
-        boolean isEmpty() {
-            return count == 0;
         }
 
         void remember(State state) {
@@ -829,32 +825,29 @@ public final class SkateSheet {
             count++;
         }
 
-        void takeBack(State state) {
-            if (count > 0) {
-                count--;
-                state.copyFrom(ring[(oldest + count) % ROOM]);
+        /** Answers false if no state is remembered. */
+        boolean takeBack(State state) {
+            if (count <= 0) {
+                return false;
             }
+            count--;
+            state.copyFrom(ring[(oldest + count) % ROOM]);
+            return true;
         }
 
         void forget() {
-            oldest = 0;
             count = 0;
         }
     }
 
     /** The text buffer, and how it is read. */
-    private static final class Text {
+    static final class Text {
         private static final int ROOM = 120;
 
         final int[] signs = new int[ROOM];
         int length;
         /** The sign that is looked at; behind a read that fails, the error position. */
         int at;
-
-        Text() {
-            length = 0;
-            at = 0;
-        }
 
         boolean isFull() {
             return length >= ROOM;
@@ -868,72 +861,63 @@ public final class SkateSheet {
         }
 
         /** The sign that is looked at, NONE at the end. */
-        int sign() {
+        private int sign() {
             return at < length ? signs[at] : NONE;
         }
 
         /** Makes the text the elements of the program; answers the error position, NONE if it is a program. */
         int readInto(Program to) {
-            to.clearElements();
+            to.elements = 0;
             at = 0;
-            for (int e = 0; e < MAX_ELEMENTS; e++) {
-                if (!readElement(to, e)) {
+            boolean more = true;
+            for (int e = 1; e <= MAX_ELEMENTS && more; e++) {
+                if (!readElement(to)) {
                     return at;
                 }
-                to.elements = e + 1;
-                if (at == length) {
-                    return NONE;
-                }
-                if (sign() != ';' || e + 1 == MAX_ELEMENTS) {
-                    return at;
-                }
-                at++;
+                more = sign() == ';' && e < MAX_ELEMENTS;
+                at += more ? 1 : 0;
             }
-            return at;
+            return at == length ? NONE : at;
         }
 
-        boolean readElement(Program to, int e) {
+        private boolean readElement(Program to) {
             if (sign() == 'p') {
-                return readLevel(to, e, SPIN);
+                return readLevel(to, SPIN);
             }
             if (sign() == 's') {
-                return readLevel(to, e, STEPS);
+                return readLevel(to, STEPS);
             }
-            return readChain(to, e);
+            return readChain(to);
         }
 
-        boolean readLevel(Program to, int e, int type) {
+        private boolean readLevel(Program to, int type) {
             at++;
-            int sign = sign();
-            if (sign < '0' || sign > '4') {
+            int level = sign() - '0';
+            if (level < 0 || level > 4) {
                 return false;
             }
             at++;
-            to.types[e] = type;
-            to.parts[e] = 1;
-            to.kinds[MAX_PARTS * e] = NONE;
-            to.turns[MAX_PARTS * e] = sign - '0';
+            to.startElement(type);
+            to.startPart(NONE, level, 0);
             return true;
         }
 
-        boolean readChain(Program to, int e) {
-            to.types[e] = JUMPS;
-            for (int k = 0; k < MAX_PARTS; k++) {
-                if (!readJump(to, MAX_PARTS * e + k)) {
+        private boolean readChain(Program to) {
+            to.startElement(JUMPS);
+            boolean more = true;
+            for (int k = 1; k <= MAX_PARTS && more; k++) {
+                if (!readJump(to)) {
                     return false;
                 }
-                to.parts[e] = k + 1;
-                if (sign() != '+' || k + 1 == MAX_PARTS) {
-                    return true;
-                }
-                at++;
+                more = sign() == '+' && k < MAX_PARTS;
+                at += more ? 1 : 0;
             }
             return true;
         }
 
-        boolean readJump(Program to, int part) {
-            int sign = sign();
-            if (sign < '1' || sign > '4') {
+        private boolean readJump(Program to) {
+            int rotations = sign() - '0';
+            if (rotations < 1 || rotations > 4) {
                 return false;
             }
             at++;
@@ -943,16 +927,12 @@ public final class SkateSheet {
             }
             at++;
             int call = callOf(sign(), kind);
-            if (call != 0) {
-                at++;
-            }
-            to.turns[part] = sign - '0';
-            to.kinds[part] = kind;
-            to.calls[part] = call;
+            at += call != 0 ? 1 : 0;
+            to.startPart(kind, rotations, call);
             return true;
         }
 
-        static int kindOf(int sign) {
+        private static int kindOf(int sign) {
             switch (sign) {
                 case 'T':
                     return 0;
@@ -972,7 +952,7 @@ public final class SkateSheet {
         }
 
         /** The call that the sign writes for such a jump, 0 if it writes none. */
-        static int callOf(int sign, int kind) {
+        private static int callOf(int sign, int kind) {
             switch (sign) {
                 case '<':
                     return SHORT;
@@ -987,7 +967,7 @@ public final class SkateSheet {
     }
 
     /** Rates one program at a time; its rows tell of the program that was rated last. */
-    private static final class Scoring {
+    static final class Scoring {
         private static final int[] JUMP_WORTHS = {
             40, 130, 420, 950,
             40, 130, 430, 970,
@@ -1020,13 +1000,8 @@ public final class SkateSheet {
         int components;
         int takenOff;
 
-        Scoring() {
-            startOver();
-        }
-
         private void startOver() {
             Arrays.fill(done, 0);
-            Arrays.fill(alone, 0);
             jumpElements = 0;
             spins = 0;
             steps = 0;
@@ -1034,7 +1009,6 @@ public final class SkateSheet {
             hadThree = false;
             lesser = 0;
             technical = 0;
-            components = 0;
             takenOff = 0;
         }
 
@@ -1069,11 +1043,7 @@ public final class SkateSheet {
             int top = 0;
             for (int k = 0; k < parts; k++) {
                 int at = MAX_PARTS * e + k;
-                int reason = tooMany ? 5
-                        : chainTooMany && k > 0 ? 3
-                        : hadThree && k == 2 ? 4
-                        : type == JUMPS ? repeatReason(program.kinds[at], program.turns[at], parts == 1)
-                        : 0;
+                int reason = reasonOf(program, e, k, tooMany, chainTooMany);
                 int worth = reason > 1 ? 0 : partWorth(type, program.kinds[at], program.turns[at], program.calls[at]);
                 worths[at] = reason == 1 ? percent(worth, 70) : worth;
                 reasons[at] = reason;
@@ -1103,12 +1073,30 @@ public final class SkateSheet {
             return steps > 1;
         }
 
-        /** Counts a jump that is left by the reasons 5, 3 and 4; answers 2, 1 or 0. */
-        private int repeatReason(int kind, int rotations, boolean isAlone) {
-            if (rotations < 3 || rotations > 4 || kind < 0 || kind > 5) {
+        /** The first reason that applies to a part; counts it for the parts behind it. */
+        private int reasonOf(Program program, int e, int k, boolean tooMany, boolean chainTooMany) {
+            if (tooMany) {
+                return 5;
+            }
+            if (chainTooMany && k > 0) {
+                return 3;
+            }
+            if (hadThree && k == 2) {
+                return 4;
+            }
+            if (program.types[e] != JUMPS) {
                 return 0;
             }
+            int at = MAX_PARTS * e + k;
+            return repeatReason(program.kinds[at], program.turns[at], program.parts[e] == 1);
+        }
+
+        /** Counts a jump that the reasons 5, 3 and 4 leave; answers 2, 1 or 0. */
+        private int repeatReason(int kind, int rotations, boolean isAlone) {
             int jump = 2 * kind + rotations - 3;
+            if (rotations < 3 || jump < 0 || jump >= HARD_JUMPS) {
+                return 0;
+            }
             int before = done[jump];
             done[jump] = before + 1;
             if (before == 0) {
@@ -1123,18 +1111,19 @@ public final class SkateSheet {
 
         /** What a part is worth with its call, before any reason. */
         private static int partWorth(int type, int kind, int turns, int call) {
-            if (type != JUMPS) {
-                if (turns < 0 || turns > 4) {
-                    return 0;
-                }
-                return type == SPIN ? SPIN_WORTHS[turns] : STEP_WORTHS[turns];
+            if (type == SPIN) {
+                return worthAt(SPIN_WORTHS, turns);
+            }
+            if (type == STEPS) {
+                return worthAt(STEP_WORTHS, turns);
             }
             int rotations = call == DOWNGRADED ? turns - 1 : turns;
-            if (rotations < 1 || rotations > 4 || kind < 0 || kind > 5) {
-                return 0;
-            }
-            int worth = JUMP_WORTHS[4 * kind + rotations - 1];
+            int worth = rotations < 1 ? 0 : worthAt(JUMP_WORTHS, 4 * kind + rotations - 1);
             return call == SHORT || call == WRONG_EDGE ? percent(worth, 80) : worth;
+        }
+
+        private static int worthAt(int[] row, int at) {
+            return at >= 0 && at < row.length ? row[at] : 0;
         }
 
         /** A half goes up; both are 0 or more. */
@@ -1150,14 +1139,10 @@ public final class SkateSheet {
     }
 
     /** The order of the skaters; needs() puts totals into it that are not those of the state. */
-    private static final class Standing {
+    static final class Standing {
         final int[] totals = new int[MAX_SKATERS];
         final int[] technicals = new int[MAX_SKATERS];
         int skaters;
-
-        Standing() {
-            skaters = 0;
-        }
 
         void rank(State state, Scoring scoring) {
             skaters = state.skaters;
@@ -1202,7 +1187,7 @@ public final class SkateSheet {
     }
 
     /** One command of a script, in its five digits. */
-    private static final class Command {
+    static final class Command {
         static final int GROUP = 100000;
 
         int verb;
@@ -1211,12 +1196,8 @@ public final class SkateSheet {
         int fourth;
         int fifth;
 
-        Command() {
-            verb = 0;
-        }
-
         void read(int group) {
-            verb = group / 10000 % 10;
+            verb = group / 10000;
             second = group / 1000 % 10;
             third = group / 100 % 10;
             fourth = group / 10 % 10;

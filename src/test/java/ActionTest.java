@@ -28,17 +28,15 @@ public final class ActionTest {
         }
         Check.isState(x::add, "add() with 4 skaters");
         Check.is(4, () -> x.about(0), "the skaters behind it");
-        // a skater that was taken back leaves nothing to the next one
+        // a skater that is there no more leaves nothing to the next one
         SkateSheet y = new SkateSheet();
+        y.save(0);
         y.add();
         Sheets.give(y, 0, "3T;p1");
         y.penalty(0, 5);
         y.component(0, 1, Sheets.components(9, 9, 9, 9, 9));
-        y.save(0);
-        while (y.about(0) > 0) {
-            y.undo();
-        }
-        Check.is(0, y::add, "add() behind undo()");
+        y.restore(0);
+        Check.is(0, y::add, "add() behind restore()");
         Check.is(0, () -> y.skater(0, 0), "its elements");
         Check.is(0, () -> y.skater(0, 4), "its total");
         Check.is(0, () -> y.penalty(0, 1), "its penalty points");

@@ -65,7 +65,7 @@ public final class FaceTest {
         fields(face);
         for (Class<?> inside : face.getDeclaredClasses()) {
             if (!Modifier.isStatic(inside.getModifiers()) || Modifier.isPublic(inside.getModifiers())) {
-                Check.report("a class inside that is not private and static: " + inside.getName());
+                Check.report("a class inside that is public or not static: " + inside.getName());
             }
         }
         Check.is(-1, () -> SkateSheet.NONE, "NONE");

@@ -171,7 +171,7 @@ public final class ModelTest {
         int verb = random.nextInt(10);
         int s = random.nextInt(random.nextInt(10) == 0 ? 10 : verb == 9 ? 1 : verb == 5 ? 5 : 3);
         int rest = switch (verb) {
-            case 1, 3 -> random.nextInt(random.nextInt(5) == 0 ? 99 : 10) * 10
+            case 1, 3 -> random.nextInt(random.nextInt(5) == 0 ? 99 : 13) * 10
                     + random.nextInt(random.nextInt(5) == 0 ? 10 : 2);
             case 2 -> random.nextInt(10) * 100 + random.nextInt(3) * 10 + random.nextInt(5);
             case 5 -> random.nextInt(s == 0 ? 400 : 20);

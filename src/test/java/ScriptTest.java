@@ -156,6 +156,13 @@ public final class ScriptTest {
         run(-1, 2, 5200080005L);
         run(-1, 2, 5100080013L);
         run(1, 2, 5100080003L);
+        // elements and reviews of two digits: 830 without a fall
+        twelve(-1, 1, 10111);
+        twelve(0, 1, 10121);
+        twelve(-1, 2, 1011170073L);
+        twelve(1, 2, 1011170074L);
+        twelve(-1, 3, 301013011190120L);
+        twelve(2, 3, 301013011190110L);
         // 1573 less 900 is 673
         run(-1, 2, 4000960001L);
         run(-1, 3, 410096000061001L);
@@ -166,6 +173,16 @@ public final class ScriptTest {
         run(-1, 3, 600006100190000L);
         run(0, 2, 99999L);
         run(1, 2, 6000000000L);
+    }
+
+    /** A sheet with twelve elements, of which ten are under review: 450 and 180 and 200. */
+    private static void twelve(int due, int n, long script) {
+        SkateSheet x = Sheets.of("p1;p1;p1;p1;p1;p1;p1;p1;p1;p1;s1;s1");
+        x.component(0, 0, Sheets.components(8, 8, 8, 8, 8));
+        for (int e = 0; e < 10; e++) {
+            x.review(0, e, true);
+        }
+        Check.is(due, () -> x.runScript(n, script), "runScript(" + n + ", " + script + ") with twelve elements");
     }
 
     private static void simulations() {
@@ -228,8 +245,9 @@ public final class ScriptTest {
         Check.is(0, () -> x.save(0), "save(0) without skaters");
         Check.isState(() -> x.restore(1), "restore(1) of nothing");
         x.add();
-        Sheets.give(x, 0, "3F+2T;p1;s1;3F");
+        Sheets.give(x, 0, "3F+2T;p1;s1;3F;1A;p4;2S!;1O;s4;2Z<+1T;p2;3A<+2T+1S!");
         x.mark(0, 0, 99999);
+        x.mark(0, 11, 111111);
         x.component(0, 1, 99999999);
         x.call(0, 0, 0, 3);
         x.fall(0, 1, true);
@@ -239,7 +257,7 @@ public final class ScriptTest {
         x.add();
         String full = Sheets.all(x);
         Check.is(2, () -> x.save(1), "save(1)");
-        Check.is(10, () -> { x.add(); return x.undo(); }, "save is no action");
+        Check.is(11, () -> { x.add(); return x.undo(); }, "save is no action");
         Sheets.write(x, "4T");
         Check.is(0, () -> x.restore(0), "restore(0)");
         Check.is(0, () -> x.about(0), "the skaters of slot 0");

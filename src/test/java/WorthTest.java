@@ -219,6 +219,9 @@ public final class WorthTest {
         Check.is(265, () -> x.element(0, 1, 2), "110 percent of 241");
         Sheets.give(x, 0, "3F<;3Fe");
         Check.is(297, () -> x.part(0, 1, 0, 3), "70 percent of 424");
+        x.set(4, 17);
+        Check.is(347, () -> x.element(0, 1, 2), "117 percent of 297: 347.49");
+        x.set(4, 10);
         Sheets.give(x, 0, "3F;3F!");
         Check.is(126, () -> x.part(0, 1, 0, 3), "70 percent of 180");
         Sheets.give(x, 0, "p1;1T+1T<+1S<");
@@ -248,6 +251,8 @@ public final class WorthTest {
         grade(-24, "3T;3T<", 1, Sheets.marks(-1), "kernel -3 and a half");
         grade(121, "3S;3S<", 1, Sheets.marks(5), "kernel 15 and a half");
         grade(-121, "3S;3S<", 1, Sheets.marks(-5), "kernel -15 and a half");
+        grade(112, "3S;3S<", 1, Sheets.marks(5, 4, 5, 4, 5), "kernel 14 and 14 thirtieths");
+        grade(-112, "3S;3S<", 1, Sheets.marks(-5, -4, -5, -4, -5), "kernel -14 and 14 thirtieths");
         // the greatest part counts, wherever it stands, with its call and reason, without bonus
         grade(42, "2T+3T+2T", 0, Sheets.marks(1), "the middle part");
         grade(42, "3T+2T+2T", 0, Sheets.marks(1), "the first part");
@@ -276,6 +281,11 @@ public final class WorthTest {
             Check.is(spin[w], () -> x.element(0, 1, w), "element(0, 1, " + w + ")");
             Check.is(steps[w], () -> x.element(0, 2, w), "element(0, 2, " + w + ")");
         }
+        Check.is(330, () -> x.part(1, 0, 0, 3), "a part of another skater");
+        Check.is(420, () -> x.part(0, 0, 0, 3), "a part of the first skater behind it");
+        x.set(2, 0);
+        Check.is(5, () -> x.part(1, 0, 0, 4), "the reason of a part of another skater");
+        Check.is(0, () -> x.part(0, 1, 0, 4), "the reason of a spin of the first skater behind it");
     }
 
     private static void skaterNumbers() {

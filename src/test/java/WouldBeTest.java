@@ -6,6 +6,7 @@ public final class WouldBeTest {
         bestSwap();
         needs();
         behind();
+        nothingStays();
         nothingChanges();
         Check.finish();
     }
@@ -141,6 +142,7 @@ public final class WouldBeTest {
         y.penalty(1, 0);
         // 100 ahead: with 10 steps less the totals are equal
         y.component(1, 0, Sheets.components(4, 4, 4, 4, 4));
+        y.mark(1, 0, Sheets.marks(5));
         Check.is(91, () -> y.needs(1, 0), "needs() of a lower technical score");
         y.mark(2, 0, Sheets.marks(5));
         Check.is(106, () -> y.needs(1, 0), "needs() against the best of the others");
@@ -152,6 +154,10 @@ public final class WouldBeTest {
         SkateSheet edge = Sheets.of("3T", "3F+2T");
         edge.mark(0, 0, Sheets.marks(5));
         Check.is(99, () -> edge.needs(1, 0), "needs() of a chain");
+        // 630 with a technical score of 530: the greatest kernel makes the totals equal
+        SkateSheet most = Sheets.of("3T", "3F");
+        most.component(1, 0, Sheets.components(4, 4, 4, 4, 4));
+        Check.is(115, () -> most.needs(0, 0), "needs() of the greatest kernel");
         Check.isIndex(() -> x.needs(0, 1), "needs(0, 1)");
         Check.isIndex(() -> x.needs(0, -1), "needs(0, -1)");
         Check.isIndex(() -> x.needs(2, 0), "needs(2, 0)");
@@ -168,6 +174,31 @@ public final class WouldBeTest {
         Check.isIndex(() -> x.behind(3), "behind(3)");
         Check.isIndex(() -> x.behind(-1), "behind(-1)");
         Check.isIndex(() -> new SkateSheet().behind(0), "behind(0) without skaters");
+    }
+
+    /** What a question tried is not in the program that is read next. */
+    private static void nothingStays() {
+        SkateSheet x = Sheets.of("3F+2T;p1;s1;3Z<");
+        for (int e = 0; e < 4; e++) {
+            x.mark(0, e, Sheets.marks(5));
+            x.fall(0, e, true);
+            x.review(0, e, true);
+        }
+        x.bestSwap(0, 0);
+        x.ifCalled(0, 3, 0, 3);
+        Sheets.write(x, "p1");
+        // 660 and 180 and 519, without the second one 150; 265, 90 and 236 for marks; 300 off
+        Check.is(660 + 150 + 180 + 519 + 265 + 90 + 236 - 300, () -> x.ifReplaced(0, 1), "ifReplaced behind bestSwap");
+        x.bestSwap(0, 0);
+        Sheets.write(x, "p1;s0;p2;s1");
+        x.program(0);
+        for (int e = 0; e < 4; e++) {
+            int at = e;
+            for (int what : new int[] {3, 6, 7}) {
+                Check.is(0, () -> x.element(0, at, what), "element(0, " + at + ", " + what + ") behind bestSwap");
+            }
+            Check.is(0, () -> x.part(0, at, 0, 2), "the call of a spin or steps behind bestSwap");
+        }
     }
 
     private static void nothingChanges() {
