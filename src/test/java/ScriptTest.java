@@ -205,7 +205,8 @@ public final class ScriptTest {
 
     /** The turns one by one, with the sheet's own actions. */
     private static void simulation(long seed, int m) {
-        SkateSheet x = Sheets.of("3F+2T;p1;s1;3F;3Ze+3Z;4T;2A+1T+3S;p4;3S;3S;s1;4T", "4A;p2;3Z;3F", "1T+1O<;4T!;3A;p4;p4;p0;p0");
+        SkateSheet x = Sheets.of("3F+2T;p1;s1;3F;3Ze+3Z;4T;2A+1T+3S;p4;3S;3S;s1;4T", "4A;p2;3Z;3F",
+                "1T+1O<;4T!;3A;p4;p4;p0;p0");
         String before = Sheets.all(x);
         int sum = x.simulate(seed, m);
         if (!before.equals(Sheets.all(x))) {
