@@ -11,9 +11,6 @@ public final class ActionTest {
         penalties();
         settings();
         undoing();
-        undoOfEachAction();
-        undoOfMany();
-        refusedChangeNothing();
         Check.finish();
     }
 
@@ -233,73 +230,5 @@ public final class ActionTest {
         Sheets.write(x, "3T;p1");
         x.undo();
         Check.is(5, x::clearText, "the text behind undo()");
-    }
-
-    private static void undoOfEachAction() {
-        SkateSheet x = Sheets.of("3F+2T;p1", "s1");
-        x.component(0, 1, Sheets.components(1, 2, 3, 4, 5));
-        takenBack(x, "add", x::add);
-        takenBack(x, "program", () -> x.program(0));
-        takenBack(x, "mark", () -> x.mark(0, 1, 5));
-        takenBack(x, "component", () -> x.component(0, 1, 7777777));
-        takenBack(x, "call", () -> x.call(0, 0, 0, 3));
-        takenBack(x, "review", () -> x.review(1, 0, true));
-        takenBack(x, "fall", () -> x.fall(0, 0, true));
-        takenBack(x, "penalty", () -> x.penalty(1, 4));
-        takenBack(x, "set", () -> x.set(0, 222));
-    }
-
-    private static void takenBack(SkateSheet x, String what, Check.Call action) {
-        String before = Sheets.all(x);
-        action.answer();
-        if (before.equals(Sheets.all(x))) {
-            Check.report(what + " changes nothing that is told");
-        }
-        x.undo();
-        if (!before.equals(Sheets.all(x))) {
-            Check.report("undo() does not take back " + what);
-        }
-    }
-
-    private static void undoOfMany() {
-        for (int actions = 13; actions <= 40; actions++) {
-            SkateSheet x = new SkateSheet();
-            x.add();
-            for (int i = 1; i < actions; i++) {
-                x.set(0, 50 + i);
-            }
-            int kept = Math.min(actions, 14);
-            for (int i = 1; i <= kept; i++) {
-                int left = kept - i;
-                Check.is(left, x::undo, "undo() number " + i + " of " + actions);
-                int setting = actions - 1 - i;
-                int due = setting <= 0 ? 100 : 50 + setting;
-                Check.is(due, () -> x.setting(0), "the setting behind undo() number " + i + " of " + actions);
-            }
-            Check.isState(x::undo, "undo() of more than 14");
-        }
-    }
-
-    /** Each refused call leaves the state and what is remembered. */
-    private static void refusedChangeNothing() {
-        SkateSheet x = Sheets.of("3T;p1", "3T;p1", "3T;p1", "3T;p1");
-        x.undo();
-        Sheets.write(x, "3T;p9");
-        String before = Sheets.all(x);
-        Check.isState(x::add, "add() of a fifth one");
-        Check.isState(() -> x.program(0), "program(0) of no program");
-        Check.isArgument(() -> x.mark(0, 0, 161051), "mark too great");
-        Check.isArgument(() -> x.component(0, 0, 115856201), "component too great");
-        Check.isState(() -> x.call(0, 0, 0, 3), "call of no edge");
-        Check.isIndex(() -> x.review(0, 2, true), "review of nothing");
-        Check.isIndex(() -> x.fall(0, 2, true), "fall of nothing");
-        Check.isArgument(() -> x.penalty(0, 10), "penalty too great");
-        Check.isArgument(() -> x.set(0, 49), "set too little");
-        Check.isArgument(() -> x.append(-1), "append(-1)");
-        if (!before.equals(Sheets.all(x))) {
-            Check.report("a refused call changes something");
-        }
-        Check.is(5, x::clearText, "the text behind refused calls");
-        Check.is(6, x::undo, "undo() behind refused calls");
     }
 }

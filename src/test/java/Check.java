@@ -11,14 +11,7 @@ final class Check {
     }
 
     static void is(long due, Call call, String what) {
-        asked++;
-        String got;
-        try {
-            got = String.valueOf(call.answer());
-        } catch (RuntimeException e) {
-            got = e.getClass().getSimpleName();
-        }
-        compare(String.valueOf(due), got, what);
+        same(String.valueOf(due), told(call), what);
     }
 
     static void isIndex(Call call, String what) {
@@ -34,18 +27,21 @@ final class Check {
     }
 
     /** The very class: an exception of the machine may be of a class below it. */
-    private static void fails(Class<? extends RuntimeException> due, Call call, String what) {
-        asked++;
-        String got;
-        try {
-            got = String.valueOf(call.answer());
-        } catch (RuntimeException e) {
-            got = e.getClass().getSimpleName();
-        }
-        compare(due.getSimpleName(), got, what);
+    static void fails(Class<? extends RuntimeException> due, Call call, String what) {
+        same(due.getSimpleName(), told(call), what);
     }
 
-    private static void compare(String due, String got, String what) {
+    /** The answer, or the name of the exception. */
+    static String told(Call call) {
+        try {
+            return String.valueOf(call.answer());
+        } catch (RuntimeException e) {
+            return e.getClass().getSimpleName();
+        }
+    }
+
+    static void same(String due, String got, String what) {
+        asked++;
         if (!due.equals(got)) {
             report(what + " answered " + got + ", due is " + due);
         }

@@ -357,6 +357,12 @@ final class Model {
 
     // ---- what there is
 
+    /** How many parts each element of a skater has; of none if there is no such skater. */
+    int[] parts(int s) {
+        return s < 0 || s >= sheet.skaters.size() ? new int[0]
+                : sheet.skaters.get(s).elements.stream().mapToInt(e -> e.parts.size()).toArray();
+    }
+
     long about(int what) {
         argument(what >= 0 && what <= 5);
         long sum = 0;

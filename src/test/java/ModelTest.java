@@ -1,15 +1,16 @@
 import java.util.Arrays;
 import java.util.Random;
 
-/** Random runs of calls on the sheet and on the model, with the same seeds each time. */
+/** Random runs of 512 calls on the sheet and on the model, with the same seeds each time. */
 public final class ModelTest {
-    private static final int RUNS = 200;
+    private static final int RUNS = 600;
     private static final int CALLS = 512;
 
     private final Random random;
     private final SkateSheet x = new SkateSheet();
     private final Model m = new Model();
     private final int run;
+    private int done = 0;
 
     private ModelTest(int run) {
         this.run = run;
@@ -25,17 +26,24 @@ public final class ModelTest {
     }
 
     private void calls() {
-        int done = 0;
+        int skaters = random.nextInt(5);
+        for (int s = 0; s < skaters; s++) {
+            same("add", x::add, m::add);
+            write(text());
+            drawn[0] = s;
+            same("program", () -> x.program(drawn[0]), () -> m.program(drawn[0]));
+        }
         while (done < CALLS) {
-            if (random.nextInt(12) == 0) {
-                done += write(text());
+            if (random.nextInt(60) == 0) {
+                write(text());
                 same("program", () -> x.program(drawn[0]), () -> m.program(drawn[0]));
-            } else if (random.nextInt(30) == 0) {
-                done += write(random.nextBoolean() ? element() : wrongText());
+            } else if (random.nextInt(60) == 0) {
+                write(random.nextBoolean() ? element() : wrongText());
+            } else if (random.nextInt(60) == 0) {
+                all();
             } else {
                 one(random.nextInt(40));
             }
-            done++;
         }
     }
 
@@ -118,37 +126,34 @@ public final class ModelTest {
             case 33 -> same("about", () -> x.about(w), () -> m.about(w));
             case 34, 35 -> same("skater", () -> x.skater(s, w), () -> m.skater(s, w));
             case 36, 37 -> same("element", () -> x.element(s, e, w), () -> m.element(s, e, w));
-            case 38 -> same("part", () -> x.part(s, e, k, w), () -> m.part(s, e, k, w));
-            default -> all();
+            default -> same("part", () -> x.part(s, e, k, w), () -> m.part(s, e, k, w));
         }
     }
 
-    /** Everything that can be asked of the state. */
+    /** Everything that can be asked of a skater, and of all. */
     private void all() {
+        draw();
         for (int w = 0; w <= 5; w++) {
             drawn[4] = w;
             same("about", () -> x.about(drawn[4]), () -> m.about(drawn[4]));
         }
-        for (int s = 0; s < 4; s++) {
-            drawn[0] = s;
-            for (int w = 0; w <= 7; w++) {
+        for (int w = 0; w <= 7; w++) {
+            drawn[4] = w;
+            same("skater", () -> x.skater(drawn[0], drawn[4]), () -> m.skater(drawn[0], drawn[4]));
+        }
+        for (int e = 0; e < m.parts(drawn[0]).length; e++) {
+            drawn[1] = e;
+            for (int w = 0; w <= 8; w++) {
                 drawn[4] = w;
-                same("skater", () -> x.skater(drawn[0], drawn[4]), () -> m.skater(drawn[0], drawn[4]));
+                same("element", () -> x.element(drawn[0], drawn[1], drawn[4]),
+                        () -> m.element(drawn[0], drawn[1], drawn[4]));
             }
-            for (int e = 0; e < 12; e++) {
-                drawn[1] = e;
-                for (int w = 0; w <= 8; w++) {
-                    drawn[4] = w;
-                    same("element", () -> x.element(drawn[0], drawn[1], drawn[4]),
-                            () -> m.element(drawn[0], drawn[1], drawn[4]));
-                }
-                parts();
-            }
+            parts(m.parts(drawn[0])[e]);
         }
     }
 
-    private void parts() {
-        for (int k = 0; k < 3; k++) {
+    private void parts(int parts) {
+        for (int k = 0; k < parts; k++) {
             drawn[2] = k;
             for (int w = 0; w <= 4; w++) {
                 drawn[4] = w;
@@ -231,7 +236,7 @@ public final class ModelTest {
         return b.toString();
     }
 
-    private int write(String text) {
+    private void write(String text) {
         draw();
         same("clearText", x::clearText, m::clearText);
         for (int i = 0; i < text.length(); i++) {
@@ -239,10 +244,14 @@ public final class ModelTest {
             same("append " + c, () -> x.append(c), () -> m.append(c));
         }
         same("errorPosition of " + text, x::errorPosition, m::errorPosition);
-        return 2;
     }
 
+    /** What comes behind the call 512 is free. */
     private void same(String what, Check.Call own, Check.Call due) {
+        if (done >= CALLS) {
+            return;
+        }
+        done++;
         String told = "run " + run + ": " + what + " " + Arrays.toString(drawn);
         long answer = 0;
         String fails = "";

@@ -203,37 +203,13 @@ public final class ScriptTest {
         }
     }
 
-    /** The turns one by one, with the sheet's own actions. */
     private static void simulation(long seed, int m) {
-        SkateSheet x = Sheets.of("3F+2T;p1;s1;3F;3Ze+3Z;4T;2A+1T+3S;p4;3S;3S;s1;4T", "4A;p2;3Z;3F",
-                "1T+1O<;4T!;3A;p4;p4;p0;p0");
-        String before = Sheets.all(x);
-        int sum = x.simulate(seed, m);
-        if (!before.equals(Sheets.all(x))) {
-            Check.report("simulate(" + seed + ", " + m + ") changes something");
-        }
-        long state = seed;
-        for (int i = 0; i < m; i++) {
-            state = state * 6364136223846793005L + 1442695040888963407L;
-            turn(x, (int) (state >>> 33));
-        }
-        Check.is(x.skater(0, 4) + x.skater(1, 4) + x.skater(2, 4), () -> sum, "simulate(" + seed + ", " + m + ")");
+        Turns.simulation(three(), three(), seed, m);
     }
 
-    private static void turn(SkateSheet x, int r) {
-        int s = r / 8 % 4;
-        int e = r / 32 % 12;
-        try {
-            switch (r % 8) {
-                case 0, 1, 2 -> x.mark(s, e, r / 512 % 161051);
-                case 3 -> x.component(s, r / 32 % 3, r / 128 % 115856201);
-                case 4, 5 -> x.call(s, e, r / 512 % 3, r / 2048 % 4);
-                case 6 -> x.fall(s, e, r / 512 % 2 == 0);
-                default -> x.penalty(s, r / 32 % 10);
-            }
-        } catch (IndexOutOfBoundsException | IllegalArgumentException | IllegalStateException left) {
-            // the document leaves it out
-        }
+    private static SkateSheet three() {
+        return Sheets.of("3F+2T;p1;s1;3F;3Ze+3Z;4T;2A+1T+3S;p4;3S;3S;s1;4T", "4A;p2;3Z;3F",
+                "1T+1O<;4T!;3A;p4;p4;p0;p0");
     }
 
     private static void slots() {
@@ -246,9 +222,9 @@ public final class ScriptTest {
         Check.is(0, () -> x.save(0), "save(0) without skaters");
         Check.isState(() -> x.restore(1), "restore(1) of nothing");
         x.add();
-        Sheets.give(x, 0, "3F+2T;p1;s1;3F;1A;p4;2S!;1O;s4;2Z<+1T;p2;3A<+2T+1S!");
+        Sheets.give(x, 0, "3F+2T;p1;s1;3A<+2T+1S!");
         x.mark(0, 0, 99999);
-        x.mark(0, 11, 111111);
+        x.mark(0, 3, 111111);
         x.component(0, 1, 99999999);
         x.call(0, 0, 0, 3);
         x.fall(0, 1, true);

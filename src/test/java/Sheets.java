@@ -39,6 +39,20 @@ final class Sheets {
 
     /** All that can be asked without changing anything, in one text, but what depends on the text buffer. */
     static String all(SkateSheet x) {
+        StringBuilder b = new StringBuilder(ofNobody(x));
+        int skaters = x.about(0);
+        for (int s = 0; s < skaters; s++) {
+            b.append('\n').append(s).append(": ");
+            for (int what = 0; what <= 7; what++) {
+                b.append(x.skater(s, what)).append(' ');
+            }
+            elements(x, s, b);
+        }
+        return b.toString();
+    }
+
+    /** The numbers of all together, and the settings. */
+    static String ofNobody(SkateSheet x) {
         StringBuilder b = new StringBuilder();
         for (int what = 0; what <= 5; what++) {
             b.append(x.about(what)).append(' ');
@@ -46,23 +60,22 @@ final class Sheets {
         for (int what = 0; what <= 4; what++) {
             b.append(x.setting(what)).append(' ');
         }
-        for (int s = 0; s < x.about(0); s++) {
-            b.append('\n').append(s).append(": ");
-            for (int what = 0; what <= 7; what++) {
-                b.append(x.skater(s, what)).append(' ');
+        return b.toString();
+    }
+
+    private static void elements(SkateSheet x, int s, StringBuilder b) {
+        int elements = x.skater(s, 0);
+        for (int e = 0; e < elements; e++) {
+            b.append("; ");
+            for (int what = 0; what <= 8; what++) {
+                b.append(x.element(s, e, what)).append(' ');
             }
-            for (int e = 0; e < x.skater(s, 0); e++) {
-                b.append("; ");
-                for (int what = 0; what <= 8; what++) {
-                    b.append(x.element(s, e, what)).append(' ');
-                }
-                for (int k = 0; k < x.element(s, e, 1); k++) {
-                    for (int what = 0; what <= 4; what++) {
-                        b.append(x.part(s, e, k, what)).append(' ');
-                    }
+            int parts = x.element(s, e, 1);
+            for (int k = 0; k < parts; k++) {
+                for (int what = 0; what <= 4; what++) {
+                    b.append(x.part(s, e, k, what)).append(' ');
                 }
             }
         }
-        return b.toString();
     }
 }
