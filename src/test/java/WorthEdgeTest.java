@@ -15,6 +15,7 @@ public final class WorthEdgeTest {
         thirdParts();
         repeats();
         repeatsLeftOut();
+        onlyParts();
         easyJumps();
         firstReason();
         lesserCall();
@@ -200,6 +201,19 @@ public final class WorthEdgeTest {
         reasons("0 1 2 2", Sheets.of("3Z<;3Z!;3Ze;3Z"), "jumps with other calls");
         reasons("00 2", Sheets.of("3T+3T;3T"), "two in one chain");
         reasons("002 2", Sheets.of("3T+3T+3T;3T"), "three in one chain");
+    }
+
+    /** "both are the only parts of their elements": a part that is worth nothing is a part, too. */
+    private static void onlyParts() {
+        reasons("00 0 2", Sheets.of("3T+1S!;3T;3T"), "a chain with a part worth nothing by its call, first");
+        reasons("0 00 2", Sheets.of("3T;3T+1S!;3T"), "a chain with a part worth nothing by its call, second");
+        SkateSheet x = Sheets.of("3T+1S;3T;3T");
+        x.set(1, 0);
+        reasons("03 0 2", x, "a chain with a part worth nothing by 3, first");
+        SkateSheet y = Sheets.of("3T;3T+1S;3T");
+        y.set(1, 0);
+        reasons("0 03 2", y, "a chain with a part worth nothing by 3, second");
+        reasons("0 1 2", Sheets.of("3T!;3T<;3T"), "jumps with calls, each the only part");
     }
 
     /** "A jump with 3 or 4 rotations" */
